@@ -1,0 +1,23 @@
+/** Counts the answers that are not the due ones, and ends a test with exit code 1 if there was one. */
+final class Check {
+    private static int wrong = 0;
+    private static int asked = 0;
+
+    private Check() {
+    }
+
+    static void due(String call, long got, long want) {
+        asked++;
+        if (got != want) {
+            wrong++;
+            System.out.println(call + " answered " + got + ", due is " + want);
+        }
+    }
+
+    static void end() {
+        System.out.println(asked + " answers, " + wrong + " of them not as due");
+        if (wrong != 0 || asked == 0) {
+            System.exit(1);
+        }
+    }
+}
