@@ -711,7 +711,7 @@ public final class LampNet {
         }
 
         // Each tick but the last takes two posts away from those that can still be walled,
-        // so few rows are left to try, and none of this needs to be kept.
+        // so there are few rows, and none of this needs to be kept.
         private int mostSaved(int burning, int walled, int depth) {
             int free = net.allPosts() & ~(burning | walled);
             if (free == 0 || depth > MOST_POSTS) {
