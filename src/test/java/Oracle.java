@@ -21,6 +21,22 @@ final class Oracle {
         }
     }
 
+    /** The net as it is now, on a new object. */
+    void build(Bench bench) {
+        for (int p = 0; p < n; p++) {
+            bench.one().post();
+        }
+        for (int a = 0; a < n; a++) {
+            bench.one().bar(a, bar[a]);
+            bench.one().price(a, price[a]);
+            for (int b = 0; b < n; b++) {
+                if (weight[a][b] > 0) {
+                    bench.one().road(a, b, weight[a][b]);
+                }
+            }
+        }
+    }
+
     private boolean[] posts(int set) {
         boolean[] posts = new boolean[n];
         for (int p = 0; p < n; p++) {
@@ -394,6 +410,14 @@ final class Oracle {
             }
         }
         return holding;
+    }
+
+    int guards(boolean[] holding) {
+        int fewest = n;
+        for (int set = 0; set <= all(); set++) {
+            fewest = holding[set] ? Math.min(fewest, size(set)) : fewest;
+        }
+        return fewest;
     }
 
     int answer(boolean[] holding, int set, int p) {
