@@ -38,6 +38,10 @@ public final class OracleTest {
             Bench x = new Bench(oracle::build);
             compareFire("fire net " + i + ": ", x, oracle, 61);
         }
+        for (int i = 0; i < 25; i++) {
+            Oracle oracle = randomNet(8 + i % 5, 1 + i % 4);
+            compareBurning("burning net " + i + ": ", new Bench(oracle::build), oracle);
+        }
         Check.end();
     }
 
